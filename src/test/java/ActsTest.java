@@ -62,7 +62,7 @@ public final class ActsTest {
 
     private static LargeBubble full() {
         LargeBubble x = Due.with(6, 2, 9, 20);
-        x.blower(0, 0, 3, 12);
+        x.blower(0, 0, 1, 12);
         x.row(0, 3, 7);
         x.mix(0, 4);
         x.mix(1, 2);
@@ -70,9 +70,11 @@ public final class ActsTest {
         x.mix(3, 50);
         Due.square(x, "coin 2 b=0");
         x.go(0);
-        x.see(0, 3, 20);
+        // The second one has a bubble by SOAP 3 .. 7 alone, TOLD by any.
+        x.see(0, 0, 20);
         x.see(1, 0, 12);
         x.book(0, false);
+        x.book(1, false);
         x.book(1, true);
         return x;
     }
@@ -88,19 +90,22 @@ public final class ActsTest {
     private static void image() {
         LargeBubble x = full();
         long[] then = answers(x);
+        due("28 WAS", then[16], 1 << 3 | 1 << 4 | 1 << 5 | 1 << 6 | 1 << 7);
+        due("28 LOOKED at", then[17], 2);
         due("28 image", x.image(), 2);
         x.blower(3, 0, 1, 1);
         x.set(0, 0, 3);
         x.set(0, 1, 5);
         for (int part = 0; part < 4; part++) x.row(0, part, 2);
         x.go(1);
+        x.go(0);
         for (int what = 0; what < 4; what++) x.mix(what, 9);
         x.pause(11);
         Due.square(x, "coin 3 b=1;wind 3 m=2");
         x.see(-1, 0, 0);
-        x.see(1, 2, 3);
+        for (int i = 0; i < 6; i++) x.see(1 - i % 2, 3, 3);
         x.book(-1, true);
-        x.book(0, true);
+        for (int i = 0; i < 12; i++) x.book(2 - i % 3, i % 2 == 0);
         x.tape(0, INTS, 3);
         x.item(0, 1, 5);
         x.act(0, 0, 1);
@@ -234,7 +239,7 @@ public final class ActsTest {
         x.book(0, true);
         x.book(0, true);
         x.act(0, 0, 0);
-        int[] want = {2, 1, 3, 4, 4, 2};
+        int[] want = {2, 1, 3, 5, 4, 2};
         for (int what = 0; what < 6; what++) due("33 count(" + what + ")", x.count(what), want[what]);
         due("33 what 6", x.count(6), -2);
         due("33 what -1", x.count(-1), -2);
@@ -254,11 +259,13 @@ public final class ActsTest {
             due("34 the last is 0", x.read(sort, 59), 0);
             due("34 there is no more", x.read(sort, 60), Long.MIN_VALUE);
         }
+        x.item(0, 0, 7);
         x.item(0, 3, 7);
         x.item(0, 59, 7);
         due("34 refused", x.tape(0, 0, 61), -2);
         due("34 as it was", x.read(0, 3), 7);
         x.tape(0, LONGS, 60);
+        due("34 all 0, the first", x.read(0, 0), 0);
         due("34 all 0", x.read(0, 3), 0);
         due("34 all 0, the last", x.read(0, 59), 0);
         due("34 none", x.tape(0, BYTES, 0), 1);

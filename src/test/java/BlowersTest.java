@@ -208,6 +208,9 @@ public final class BlowersTest {
         Due.square(y, "coin 3 b=0");
         due("8 a fault", Due.square(y, "coin 4 b=0x"), -20);
         due("8 the one that held holds", y.would(0, 3), 20 * 59 * 3);
+        due("8 another fault", Due.square(y, "coin 4 b=0;dry 3 !b=1;x"), -10 - 22);
+        due("8 the next", Due.square(y, "wind 0 b=0"), 1);
+        due("8 nothing is left of the fault's clauses", y.would(0, 3), 20 * 59);
     }
 
     private static void told() {

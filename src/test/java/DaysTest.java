@@ -161,6 +161,13 @@ public final class DaysTest {
         y.see(-1, 0, 0);
         y.see(0, 30, 0);
         due("21 30 minutes", y.was(), 1023);
+        y.see(-1, 0, 0);
+        y.blower(0, 0, 9, 20);
+        y.see(0, 1, 20);
+        y.see(1, 1, 20);
+        due("21 another blower, who always has a bubble", y.was(), 1 << 5);
+        y.see(1, 2, 0);
+        due("21 another blower, never torn", y.was(), 0);
     }
 
     private static void calm() {
@@ -175,6 +182,7 @@ public final class DaysTest {
         LargeBubble wise = Due.with(5, 0, 9, 20);
         Due.square(wise, "wind 1 b=0;coin 1 s=2");
         due("22 below 0", wise.calm(0), -1140);
+        due("22 the wind is there behind it", wise.would(0, 3), 1140);
         LargeBubble torn = Due.with(0, 0, 9, 20);
         Due.square(torn, "wind 99 b=0;dry 3 b=0");
         due("22 not torn", torn.calm(0), 29 * 20);
@@ -196,6 +204,7 @@ public final class DaysTest {
         LargeBubble wind = Due.with(0, 0, 1, 18);
         Due.square(wind, "wind 2 m=5");
         odds("23 with wind", wind, 4, 5);
+        due("23 no gust is left behind it", wind.would(0, 0), 18);
         due("23 part 2", wind.odds(0, 2), Long.MIN_VALUE);
         due("23 part -1", wind.odds(0, -1), Long.MIN_VALUE);
         due("23 no such one", wind.odds(1, 0), Long.MIN_VALUE);

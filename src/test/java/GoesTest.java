@@ -64,6 +64,10 @@ public final class GoesTest {
         due("11 MINUTE", x.told(5), 9910);
         due("11 above 9900", x.go(0), -3);
         due("11 DIPS stay", x.told(3), 8);
+        LargeBubble y = Due.with(0, 0, 9, 20);
+        for (int i = 0; i < 165; i++) y.pause(60);
+        y.pause(1);
+        due("11 at 9901", y.go(0), -3);
     }
 
     private static void wouldByKinds() {

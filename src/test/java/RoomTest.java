@@ -5,7 +5,7 @@ public final class RoomTest {
     private static final int[] EDGES = {
         Integer.MIN_VALUE, Integer.MIN_VALUE + 1, -1000, -2, -1, 0, 1, 2, 3, 4, 5, 6, 7, 9, 10, 12, 20, 31, 59, 60, 61, 99,
         100, 127, 128, 10000, Integer.MAX_VALUE - 1, Integer.MAX_VALUE};
-    private static final long BYTES_OF_A_RUN = 2_000_000;
+    private static final long BYTES_OF_A_RUN = 20_000;
 
     public static void main(String[] args) {
         for (int fullness = 0; fullness < 3; fullness++) {
