@@ -58,7 +58,7 @@ public final class GoesTest {
         due("11 NONE ahead of STATE", x.go(1), -1);
         due("11 would without a dip", x.would(0, 0), 20);
         x.mix(3, 9);
-        while (x.told(5) < 9840) x.pause(60);
+        for (int i = 0; i < 165 && x.told(5) < 9840; i++) x.pause(60);
         x.pause(9900 - x.told(5));
         due("11 at 9900", x.go(0), 20);
         due("11 MINUTE", x.told(5), 9910);
